@@ -51,6 +51,10 @@ public final class ClothsTest {
         due.is("stays so", 3, () -> book.countStripes(5));
         due.is("9 and a half becomes 10", 10, () -> book.getCount(5, 1));
         due.is("loss is of the divided count", 10, () -> book.getLoss());
+        Due.sett(book, false, 0, 6, 1, 8);
+        due.is("odd first stripe", 7, () -> book.scale(6, 1, 2));
+        due.is("loss of the first stripe", 2, () -> book.getLoss());
+        Due.tell(book, 0, 4, 1, 10, 2, 2);
         due.is("the row stays", 3, () -> book.clearStripes());
     }
 

@@ -5,6 +5,7 @@ public final class CopiesTest {
         addCopy(due);
         miscopy(due);
         parents(due);
+        errorsOfTheParent(due);
         depths(due);
         deepest(due);
         due.end();
@@ -94,6 +95,27 @@ public final class CopiesTest {
         due.is("no higher one", -1, () -> book.parentOf(0));
         book.addCopy(0);
         due.is("without errors", -1, () -> book.parentOf(4));
+    }
+
+    private static void errorsOfTheParent(Due due) {
+        Settbook book = bookOfSetts();
+        for (int copy = 0; copy < 3; copy++) {
+            book.addCopy(0);
+            book.miscopy(copy, 0, 6);
+        }
+        for (int copy = 1; copy < 3; copy++) {
+            book.miscopy(copy, 1, 6);
+            book.miscopy(copy, 2, 8);
+        }
+        book.miscopy(1, 3, 8);
+        due.is("three less one go before one", 1, () -> book.parentOf(2));
+        book.miscopy(1, 4, 8);
+        due.is("three less two are one", 0, () -> book.parentOf(2));
+        book.miscopy(0, 0, 4);
+        due.is("one goes before the sett", 1, () -> book.parentOf(2));
+        book.miscopy(2, 3, 12);
+        book.miscopy(2, 0, 4);
+        due.is("two less three", -1, () -> book.parentOf(2));
     }
 
     private static void depths(Due due) {

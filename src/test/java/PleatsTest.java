@@ -72,6 +72,7 @@ public final class PleatsTest {
         Settbook book = bookOfSett();
         due.is("one to the sett", 26, () -> book.threadsUsed(0, true, 4, 1));
         due.is("one to a stripe", 22, () -> book.threadsUsed(0, false, 4, 1));
+        due.is("least to the sett", 23, () -> book.threadsUsed(0, true, 1, 1));
         due.is("most to the sett", 6200, () -> book.threadsUsed(0, true, 40, 100));
         due.is("most to a stripe", 2200, () -> book.threadsUsed(0, false, 40, 100));
         due.is("sett above", Due.INDEX, () -> book.threadsUsed(1, true, 0, 0));

@@ -41,6 +41,12 @@ public final class SettsTest {
         due.is("odd count", Due.UNSUPPORTED, () -> book.makeSett(true));
         Due.tell(book, 0, 4, 1, 2, 2, 3);
         due.is("odd count at the end", Due.UNSUPPORTED, () -> book.makeSett(false));
+        Due.tell(book, 0, 3, 1, 4);
+        due.is("odd count at the beginning", Due.UNSUPPORTED, () -> book.makeSett(false));
+        Due.tell(book, 0, 4, 0, 2, 1, 2);
+        due.is("one shade twice at the beginning", Due.UNSUPPORTED, () -> book.makeSett(true));
+        Due.tell(book, 1, 4, 0, 2, 0, 2);
+        due.is("one shade twice at the end", Due.UNSUPPORTED, () -> book.makeSett(false));
         Due.tell(book, 0, 4, 1, 2, 1, 2, 0, 2);
         due.is("one shade twice", Due.UNSUPPORTED, () -> book.makeSett(true));
         Due.tell(book, 0, 4, 1, 2, 0, 2);
@@ -192,9 +198,13 @@ public final class SettsTest {
         due.is("mean of green", 1, () -> book.meanPart(1, 1));
         due.is("mean of blue", 10, () -> book.meanPart(1, 2));
         due.is("mean, mirrored", 15, () -> book.meanPart(0, 0));
+        Due.sett(book, false, 1, 2, 2, 4);
+        due.is("mean of 40 by 6 is cut", 6, () -> book.meanPart(2, 1));
+        Due.sett(book, true, 0, 2, 2, 2, 1, 2);
+        due.is("mean of 98 by 8, cut", 12, () -> book.meanPart(3, 2));
         due.is("part below", Due.ARGUMENT, () -> book.meanPart(0, -1));
         due.is("part above", Due.ARGUMENT, () -> book.meanPart(0, 3));
-        due.is("no sett goes before part", Due.INDEX, () -> book.meanPart(2, 3));
+        due.is("no sett goes before part", Due.INDEX, () -> book.meanPart(4, 3));
         due.is("sett below", Due.INDEX, () -> book.meanPart(-1, 0));
     }
 }

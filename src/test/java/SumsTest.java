@@ -47,6 +47,12 @@ public final class SumsTest {
         due.is("withdrawn ones count", 2.0f / 3.0f, () -> book.contestedShare());
         book.withdraw(0);
         due.is("contested by the other one", 1.0f / 3.0f, () -> book.contestedShare());
+        Settbook other = Due.bookOfShades(3);
+        Due.sett(other, false, 0, 4, 1, 8);
+        Due.sett(other, false, 0, 4, 2, 8);
+        other.register(0, 'n', 0, 1600);
+        other.register(1, 'n', 0, 1500);
+        due.is("the first sett is contested", 0.5f, () -> other.contestedShare());
     }
 
     private static void meanThreads(Due due) {
