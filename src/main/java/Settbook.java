@@ -605,24 +605,27 @@ public final class Settbook {
         if (known != NONE) {
             return known;
         }
-        int least = turnDistance(first, second, 0, 1);
+        int least = Integer.MAX_VALUE;
         for (int begin = 0; begin < second.round.size; begin++) {
-            least = Math.min(least, turnDistance(first, second, begin, 1));
-            least = Math.min(least, turnDistance(first, second, begin, -1));
+            least = turnDistance(first, second, begin, 1, least);
+            least = turnDistance(first, second, begin, -1, least);
         }
         first.keepDistance(second.number, least);
         return least;
     }
 
-    private int turnDistance(Sett first, Sett second, int begin, int step) {
+    /** The sum of one turn, or the bound if that is less: a sum never falls, so it is left where it gets there. */
+    private int turnDistance(Sett first, Sett second, int begin, int step, int bound) {
         int sum = 0;
-        for (int i = 0; i < STRIPES_COMPARED; i++) {
-            int here = first.round.turned(0, 1, i);
-            int there = second.round.turned(begin, step, i);
+        int here = 0;
+        int there = begin;
+        for (int i = 0; i < STRIPES_COMPARED && sum < bound; i++) {
             sum += palette.apart(first.round.shadeAt(here), second.round.shadeAt(there));
             sum += Math.abs(first.percentAt(here) - second.percentAt(there));
+            here = first.round.nextTo(here, 1);
+            there = second.round.nextTo(there, step);
         }
-        return sum;
+        return Math.min(sum, bound);
     }
 
     private static boolean goesAhead(Sett sett, Sett other) {
@@ -750,6 +753,7 @@ public final class Settbook {
 
         private final char[] letters = new char[LIMIT];
         private final int[] parts = new int[LIMIT * PARTS];
+        private final int[] distances = new int[LIMIT * LIMIT];
         private int size = 0;
 
         boolean has(int shade) {
@@ -780,7 +784,20 @@ public final class Settbook {
             parts[first + 1] = green;
             parts[first + 2] = blue;
             size++;
+            measure(shade);
             return shade;
+        }
+
+        /** Shades never change, so their distances are found once. */
+        private void measure(int shade) {
+            for (int other = 0; other < shade; other++) {
+                int here = shade * LIMIT + other;
+                int there = other * LIMIT + shade;
+                if (here < distances.length && there < distances.length) {
+                    distances[here] = partsApart(shade, other);
+                    distances[there] = distances[here];
+                }
+            }
         }
 
         int partAt(int shade, int part) {
@@ -789,6 +806,11 @@ public final class Settbook {
         }
 
         int apart(int shade, int other) {
+            int place = shade * LIMIT + other;
+            return place >= 0 && place < distances.length ? distances[place] : 0;
+        }
+
+        private int partsApart(int shade, int other) {
             int sum = 0;
             for (int part = 0; part < PARTS; part++) {
                 sum += Math.abs(partAt(shade, part) - partAt(other, part));
@@ -891,6 +913,15 @@ public final class Settbook {
         /** The place of a stripe of the round that is begun at some stripe and gone in a direction. */
         int turned(int begin, int step, int index) {
             return size == 0 ? 0 : Math.floorMod(begin + step * index, size);
+        }
+
+        /** The stripe of the round behind one in a direction. */
+        int nextTo(int index, int step) {
+            int next = index + step;
+            if (next < 0) {
+                return size - 1;
+            }
+            return next < size ? next : 0;
         }
 
         /** Below 0, 0 or above 0 as one turn of this round stands before, beside or behind another one. */
@@ -1019,6 +1050,7 @@ public final class Settbook {
         private final Row round;
         private final Row form;
         private final int threads;
+        private final int[] percents;
         private final int[] distances = new int[SETT_LIMIT];
         private boolean isRegistered = false;
         private boolean isWithdrawn = false;
@@ -1034,10 +1066,14 @@ public final class Settbook {
             round = told.roundOf(isMirrored);
             form = round.lowestTurn();
             threads = round.countThreads();
+            percents = new int[Math.max(round.size, 0)];
+            for (int i = 0; i < percents.length; i++) {
+                percents[i] = quotient(100 * round.countAt(i), threads);
+            }
         }
 
         int percentAt(int stripe) {
-            return quotient(100 * round.countAt(stripe), threads);
+            return stripe >= 0 && stripe < percents.length ? percents[stripe] : 0;
         }
 
         int threadShade(int thread) {

@@ -108,17 +108,22 @@ public final class ClothsTest {
         Due.sett(book, false, 0, 2, 1, 4);
         Due.sett(book, false, 0, 2, 1, 4, 2, 6);
         Due.sett(book, false, 1, 4, 0, 2, 2, 6);
+        Due.sett(book, false, 1, 4, 2, 6, 0, 2);
+        Due.sett(book, false, 0, 2, 2, 6, 1, 4);
         due.is("to itself", 0, () -> book.distance(0, 0));
         due.is("one shade is 5 apart", 40, () -> book.distance(0, 1));
         due.is("counts are 33 and 66 of 100", 8 * 17 + 8 * 16, () -> book.distance(0, 2));
         due.is("back", 8 * 17 + 8 * 16, () -> book.distance(2, 0));
         due.is("gone back", 0, () -> book.distance(3, 4));
+        due.is("gone back from the first stripe on", 0, () -> book.distance(3, 6));
+        due.is("begun at the first stripe", 0, () -> book.distance(3, 3));
+        due.is("begun elsewhere", 0, () -> book.distance(3, 5));
         due.is("to it from shorter rounds", 502, () -> book.distance(0, 3));
         due.is("and on from it", 531, () -> book.distance(3, 0));
         due.is("the same again", 502, () -> book.distance(0, 3));
         due.is("first below", Due.INDEX, () -> book.distance(-1, 0));
-        due.is("first above", Due.INDEX, () -> book.distance(5, 0));
+        due.is("first above", Due.INDEX, () -> book.distance(7, 0));
         due.is("second below", Due.INDEX, () -> book.distance(0, -1));
-        due.is("second above", Due.INDEX, () -> book.distance(0, 5));
+        due.is("second above", Due.INDEX, () -> book.distance(0, 7));
     }
 }
