@@ -207,7 +207,8 @@ public final class EdgesTest {
         }
         for (int i = 0; i < 4; i++) {
             int sett = i;
-            some.refuse("register, " + i + " is registered", Due.UNSUPPORTED, book -> book.register(sett, 'n', 0, 1600));
+            some.refuse("register, " + i + " is registered", Due.UNSUPPORTED,
+                book -> book.register(sett, 'n', 0, 1600));
         }
         some.refuse("withdraw, not registered", Due.UNSUPPORTED, book -> book.withdraw(4));
         some.refuse("withdraw, withdrawn", Due.UNSUPPORTED, book -> book.withdraw(3));
@@ -234,10 +235,12 @@ public final class EdgesTest {
     private void pleats() {
         for (boolean isSett : new boolean[] {true, false}) {
             String to = isSett ? " to the sett" : " to a stripe";
-            some.edges("pleatShade, seen" + to, Due.ARGUMENT, 1, 40, (book, n) -> book.pleatShade(0, isSett, 3, n, 0, 0));
+            some.edges("pleatShade, seen" + to, Due.ARGUMENT, 1, 40,
+                (book, n) -> book.pleatShade(0, isSett, 3, n, 0, 0));
             some.edges("pleatShade, pleat" + to, Due.ARGUMENT, 0, 99,
                 (book, n) -> book.pleatShade(0, isSett, 3, 4, n, 0));
-            some.edges("pleatShade, index" + to, Due.ELEMENT, 0, 0, (book, n) -> book.pleatShade(0, isSett, 0, 1, 0, n));
+            some.edges("pleatShade, index" + to, Due.ELEMENT, 0, 0,
+                (book, n) -> book.pleatShade(0, isSett, 0, 1, 0, n));
             some.edges("pleatShade, index" + to, Due.ELEMENT, 0, 39,
                 (book, n) -> book.pleatShade(0, isSett, 0, 40, 99, n));
             some.edges("isPlain, seen" + to, Due.ARGUMENT, 1, 40, (book, n) -> book.isPlain(0, isSett, 3, n, 0));
