@@ -19,8 +19,15 @@ final class Due {
         try {
             return call.run();
         } catch (RuntimeException thrown) {
-            return thrown.getClass();
+            return kind(thrown);
         }
+    }
+
+    /** An exception that the library throws, as a list does at a wrong index, is none of the class's own. */
+    static Object kind(Throwable thrown) {
+        StackTraceElement[] trace = thrown.getStackTrace();
+        boolean isOwn = trace.length > 0 && trace[0].getClassName().indexOf('.') < 0;
+        return isOwn ? thrown.getClass() : "by the machine " + thrown;
     }
 
     /** The want is a value, or the class of the exception that is due. */

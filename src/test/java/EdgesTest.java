@@ -169,6 +169,7 @@ public final class EdgesTest {
         Refusals last = new Refusals(due, settOf(2, 134));
         last.refuse("scale, the last count would be 201, so 202", Due.UNSUPPORTED, book -> book.scale(5, 3, 2));
         full.refuse("scale, there are 20", Due.STATE, book -> book.scale(1, 1, 2));
+        full.refuse("scale, there are 20, with a loss", Due.STATE, book -> book.scale(1, 1, 20));
         none.refuse("getLoss, there was none", Due.ELEMENT, book -> book.getLoss());
         tight.refuse("getLoss, setts alone", Due.ELEMENT, book -> book.getLoss());
         tight.refuse("getLoss, after wrong numbers", Due.ELEMENT, book -> {

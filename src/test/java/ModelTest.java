@@ -182,7 +182,7 @@ public final class ModelTest {
         try {
             return method.invoke(book, arguments);
         } catch (InvocationTargetException thrown) {
-            return thrown.getCause().getClass();
+            return Due.kind(thrown.getCause());
         }
     }
 
