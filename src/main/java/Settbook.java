@@ -1,7 +1,10 @@
 import java.util.ArrayList;
 import java.util.NoSuchElementException;
 
-/** A house of tartans: shades, setts, cloths, likenesses, rights, pleats, mills, copies and scraps. */
+/**
+ * A house of tartans: shades, setts, cloths, likenesses, rights, pleats, mills, copies and scraps. Its public
+ * methods stand in the order of the promises of DOC.md, where it is said what each one answers and refuses.
+ */
 public final class Settbook {
     private static final int ROW_LIMIT = 16;
     private static final int COUNT_MOST = 200;
@@ -35,11 +38,9 @@ public final class Settbook {
     private int registered = 0;
     private int waste = 0;
 
-    /** Creates a house without shades and setts. */
     public Settbook() {
     }
 
-    /** Adds a shade and returns its number. */
     public int addShade(char letter, int red, int green, int blue)
             throws IllegalArgumentException, UnsupportedOperationException, IllegalStateException {
         if (letter < 'A' || letter > 'Z') {
@@ -57,7 +58,6 @@ public final class Settbook {
         return palette.put(letter, red, green, blue);
     }
 
-    /** Returns a part of a shade in an era. */
     public int getPart(int shade, char era, int part)
             throws IndexOutOfBoundsException, IllegalArgumentException {
         requireShade(shade);
@@ -72,14 +72,12 @@ public final class Settbook {
         return era == 'a' ? Math.min(modern + ANCIENT_SHIFT, PART_MOST) : modern / 2 + WEATHERED_SHIFT;
     }
 
-    /** Returns the distance of two shades. */
     public int shadeDistance(int shade, int other) throws IndexOutOfBoundsException {
         requireShade(shade);
         requireShade(other);
         return palette.apart(shade, other);
     }
 
-    /** Adds a stripe to the row and returns how many it has. */
     public int addStripe(int shade, int count)
             throws IndexOutOfBoundsException, IllegalArgumentException, IllegalStateException {
         requireShade(shade);
@@ -91,14 +89,12 @@ public final class Settbook {
         return row.size;
     }
 
-    /** Clears the row and returns how many stripes it had. */
     public int clearStripes() {
         int had = row.size;
-        row.size = 0;
+        row.clear();
         return had;
     }
 
-    /** Makes a sett of the row and returns its number. */
     public int makeSett(boolean isMirrored) throws UnsupportedOperationException, IllegalStateException {
         if (!row.canBeSett(isMirrored)) {
             throw new UnsupportedOperationException("the row can be no sett");
@@ -107,51 +103,43 @@ public final class Settbook {
         return keepSett(row.copied(), isMirrored);
     }
 
-    /** Returns how many threads a round has. */
     public int getThreads(int sett) throws IndexOutOfBoundsException {
         return settAt(sett).threads;
     }
 
-    /** Returns how many stripes a round has. */
     public int countStripes(int sett) throws IndexOutOfBoundsException {
         return settAt(sett).round.size;
     }
 
-    /** Returns the shade of a stripe of the round. */
     public int getShade(int sett, int index) throws IndexOutOfBoundsException, NoSuchElementException {
         Row round = settAt(sett).round;
         requireStripe(round, index);
         return round.shadeAt(index);
     }
 
-    /** Returns the count of a stripe of the round. */
     public int getCount(int sett, int index) throws IndexOutOfBoundsException, NoSuchElementException {
         Row round = settAt(sett).round;
         requireStripe(round, index);
         return round.countAt(index);
     }
 
-    /** Returns the shade of a stripe of the form. */
     public int formShade(int sett, int index) throws IndexOutOfBoundsException, NoSuchElementException {
         Row form = settAt(sett).form;
         requireStripe(form, index);
         return form.shadeAt(index);
     }
 
-    /** Returns the count of a stripe of the form. */
     public int formCount(int sett, int index) throws IndexOutOfBoundsException, NoSuchElementException {
         Row form = settAt(sett).form;
         requireStripe(form, index);
         return form.countAt(index);
     }
 
-    /** Returns whether two setts are alike. */
     public boolean isAlike(int sett, int other) throws IndexOutOfBoundsException {
         Row round = settAt(sett).round;
         return settAt(other).round.isTurnOf(round);
     }
 
-    /** Returns the lowest sett that is alike, perhaps the sett itself. */
     public int lowestAlike(int sett) throws IndexOutOfBoundsException {
         Row round = settAt(sett).round;
         for (int i = 0; i < setts.size(); i++) {
@@ -162,21 +150,18 @@ public final class Settbook {
         return sett;
     }
 
-    /** Returns the shade of a thread. */
     public int shadeOf(int sett, int thread) throws IndexOutOfBoundsException, IllegalArgumentException {
         Sett found = settAt(sett);
         requireWithin(thread, 0, THREAD_MOST);
         return found.threadShade(thread);
     }
 
-    /** Returns the threads of the round that have a shade, times 1000, divided by all, cut. */
     public int getShare(int sett, int shade) throws IndexOutOfBoundsException {
         Sett found = settAt(sett);
         requireShade(shade);
         return quotient(found.round.threadsOf(shade) * 1000, found.threads);
     }
 
-    /** Returns a part as it is seen from afar. */
     public int meanPart(int sett, int part) throws IndexOutOfBoundsException, IllegalArgumentException {
         Sett found = settAt(sett);
         requirePart(part);
@@ -187,19 +172,16 @@ public final class Settbook {
         return quotient(sum, found.threads);
     }
 
-    /** Returns whether a cloth joins at the seam. */
     public boolean joins(int sett, int width, int perUnit)
             throws IndexOutOfBoundsException, IllegalArgumentException {
         return threadsOver(settAt(sett), width, perUnit) == 0;
     }
 
-    /** Returns how many threads of a cloth are over. */
     public int over(int sett, int width, int perUnit)
             throws IndexOutOfBoundsException, IllegalArgumentException {
         return threadsOver(settAt(sett), width, perUnit);
     }
 
-    /** Scales a sett and returns the number of the sett that is made. */
     public int scale(int sett, int number, int divisor)
             throws IndexOutOfBoundsException, IllegalArgumentException, UnsupportedOperationException,
             IllegalStateException {
@@ -214,7 +196,6 @@ public final class Settbook {
         return keepSett(source.told.scaled(number, divisor), source.isMirrored);
     }
 
-    /** Returns the loss of the last scaling. */
     public int getLoss() throws NoSuchElementException {
         if (loss == NONE) {
             throw new NoSuchElementException("there was no scaling");
@@ -222,7 +203,6 @@ public final class Settbook {
         return loss;
     }
 
-    /** Returns the shade that is seen in a twill. */
     public int twillAt(int sett, int warp, int weft)
             throws IndexOutOfBoundsException, IllegalArgumentException {
         Sett found = settAt(sett);
@@ -232,13 +212,11 @@ public final class Settbook {
         return found.threadShade(isWeftAbove ? weft : warp);
     }
 
-    /** Returns the distance of a sett to another one. */
     public int distance(int sett, int other) throws IndexOutOfBoundsException {
         Sett first = settAt(sett);
         return distanceBetween(first, settAt(other));
     }
 
-    /** Sets the ruling and returns the one before. */
     public int setRuling(int ruling) throws IllegalArgumentException {
         requireWithin(ruling, 0, RULING_MOST);
         int before = this.ruling;
@@ -246,7 +224,6 @@ public final class Settbook {
         return before;
     }
 
-    /** Registers a sett and returns how many are registered. */
     public int register(int sett, char kind, int owner, int proof)
             throws IndexOutOfBoundsException, IllegalArgumentException, UnsupportedOperationException {
         Sett found = settAt(sett);
@@ -266,7 +243,6 @@ public final class Settbook {
         return registered;
     }
 
-    /** Withdraws a sett and returns whether it was contested. */
     public boolean withdraw(int sett) throws IndexOutOfBoundsException, UnsupportedOperationException {
         Sett found = registeredAt(sett);
         if (found.isWithdrawn) {
@@ -277,12 +253,10 @@ public final class Settbook {
         return wasContested;
     }
 
-    /** Returns whether a sett is contested. */
     public boolean isContested(int sett) throws IndexOutOfBoundsException, UnsupportedOperationException {
         return foremostRival(registeredAt(sett)) != null;
     }
 
-    /** Returns by which sett a sett is contested. */
     public int contestedBy(int sett)
             throws IndexOutOfBoundsException, UnsupportedOperationException, NoSuchElementException {
         Sett rival = foremostRival(registeredAt(sett));
@@ -292,7 +266,6 @@ public final class Settbook {
         return rival.number;
     }
 
-    /** Gives consent and returns whether it was given before. */
     public boolean consent(int sett, int applicant)
             throws IndexOutOfBoundsException, IllegalArgumentException, UnsupportedOperationException {
         Sett found = settAt(sett);
@@ -305,7 +278,6 @@ public final class Settbook {
         return wasGiven;
     }
 
-    /** Returns whether an applicant may weave a sett. */
     public boolean mayWeave(int sett, int applicant)
             throws IndexOutOfBoundsException, IllegalArgumentException {
         Sett found = settAt(sett);
@@ -313,7 +285,6 @@ public final class Settbook {
         return isAllowed(found, applicant);
     }
 
-    /** Returns the registered sett by which the right to a sett is. */
     public int rightOf(int sett) throws IndexOutOfBoundsException, NoSuchElementException {
         Sett right = foremostAlike(settAt(sett));
         if (right == null) {
@@ -322,7 +293,6 @@ public final class Settbook {
         return right.number;
     }
 
-    /** Returns the shade of a thread that a pleat shows. */
     public int pleatShade(int sett, boolean isSett, int stripe, int seen, int pleat, int index)
             throws IndexOutOfBoundsException, IllegalArgumentException, NoSuchElementException {
         Sett found = settAt(sett);
@@ -333,7 +303,6 @@ public final class Settbook {
         return found.threadShade(found.pleatBegin(isSett, stripe, seen, pleat) + index);
     }
 
-    /** Returns whether all threads that a pleat shows are of one shade. */
     public boolean isPlain(int sett, boolean isSett, int stripe, int seen, int pleat)
             throws IndexOutOfBoundsException, IllegalArgumentException, NoSuchElementException {
         Sett found = settAt(sett);
@@ -348,7 +317,6 @@ public final class Settbook {
         return true;
     }
 
-    /** Returns how many threads some pleats take. */
     public int threadsUsed(int sett, boolean isSett, int seen, int pleats)
             throws IndexOutOfBoundsException, IllegalArgumentException {
         Sett found = settAt(sett);
@@ -358,7 +326,6 @@ public final class Settbook {
         return each * pleats;
     }
 
-    /** Adds an order and returns its number. */
     public int order(int sett, int length, int applicant)
             throws IndexOutOfBoundsException, IllegalArgumentException, UnsupportedOperationException,
             IllegalStateException {
@@ -375,7 +342,6 @@ public final class Settbook {
         return mill.put(warp == NONE ? mill.putUp(sett, length) : warp, length);
     }
 
-    /** Returns the warp of an order. */
     public int warpOf(int order) throws IndexOutOfBoundsException {
         if (!mill.hasOrder(order)) {
             throw new IndexOutOfBoundsException("no such order");
@@ -383,7 +349,6 @@ public final class Settbook {
         return mill.warpAt(order);
     }
 
-    /** Returns how much is left of a warp. */
     public int left(int warp) throws IndexOutOfBoundsException {
         if (!mill.hasWarp(warp)) {
             throw new IndexOutOfBoundsException("no such warp");
@@ -391,24 +356,16 @@ public final class Settbook {
         return mill.restAt(warp);
     }
 
-    /** Cuts all warps and returns how much of them is waste. */
     public int cut() {
-        int wasted = 0;
-        for (int i = 0; i < mill.warpCount; i++) {
-            wasted += mill.restAt(i);
-        }
-        mill.warpCount = 0;
-        mill.orderCount = 0;
+        int wasted = mill.takeDown();
         waste += wasted;
         return wasted;
     }
 
-    /** Returns how much was waste so far. */
     public int getWaste() {
         return waste;
     }
 
-    /** Adds a copy and returns its number. */
     public int addCopy(int sett) throws IndexOutOfBoundsException, IllegalStateException {
         Sett found = settAt(sett);
         if (copies.size() >= COPY_LIMIT) {
@@ -418,7 +375,6 @@ public final class Settbook {
         return copies.size() - 1;
     }
 
-    /** Sets a count of a copy and returns how many errors it has. */
     public int miscopy(int copy, int stripe, int count)
             throws IndexOutOfBoundsException, IllegalArgumentException, NoSuchElementException {
         Copy found = copyAt(copy);
@@ -430,12 +386,10 @@ public final class Settbook {
         return found.countErrors();
     }
 
-    /** Returns the likely parent of a copy, -1 for the sett. */
     public int parentOf(int copy) throws IndexOutOfBoundsException {
         return likelyParent(copyAt(copy), copy);
     }
 
-    /** Returns how many likely parents, one behind the other, lead to the sett, it included. */
     public int depth(int copy) throws IndexOutOfBoundsException {
         int parent = likelyParent(copyAt(copy), copy);
         int parents = 1;
@@ -446,14 +400,12 @@ public final class Settbook {
         return parents;
     }
 
-    /** Returns whether the row fits a sett. */
     public boolean fits(int sett) throws IndexOutOfBoundsException, UnsupportedOperationException {
         Row round = settAt(sett).round;
         requireScrap();
         return row.isScrapOf(round);
     }
 
-    /** Returns how many setts the row fits. */
     public int countFits() throws UnsupportedOperationException {
         requireScrap();
         int fitting = 0;
@@ -465,7 +417,6 @@ public final class Settbook {
         return fitting;
     }
 
-    /** Returns a sum over all. */
     public long checksum() {
         long sum = 7;
         for (int i = 0; i < setts.size(); i++) {
@@ -477,7 +428,6 @@ public final class Settbook {
         return 31 * sum + waste;
     }
 
-    /** Returns the share of registered setts that are contested. */
     public float contestedShare() throws ArithmeticException {
         if (registered == 0) {
             throw new ArithmeticException("no sett is registered");
@@ -492,7 +442,6 @@ public final class Settbook {
         return (float) contested / (float) registered;
     }
 
-    /** Returns the mean of threads of setts. */
     public double meanThreads() throws ArithmeticException {
         if (setts.isEmpty()) {
             throw new ArithmeticException("there is no sett");
@@ -504,7 +453,6 @@ public final class Settbook {
         return (double) sum / (double) setts.size();
     }
 
-    /** Checks all. */
     public boolean isSound() {
         return areRoundsSound() && doFormsTellLikeness() && areWarpsSound() && areParentsSound();
     }
@@ -746,7 +694,6 @@ public final class Settbook {
         return true;
     }
 
-    /** The shades, each with a letter and its parts. */
     private static final class Palette {
         static final int PARTS = 3;
         private static final int LIMIT = 12;
@@ -791,12 +738,16 @@ public final class Settbook {
         /** Shades never change, so their distances are found once. */
         private void measure(int shade) {
             for (int other = 0; other < shade; other++) {
-                int here = shade * LIMIT + other;
-                int there = other * LIMIT + shade;
-                if (here < distances.length && there < distances.length) {
-                    distances[here] = partsApart(shade, other);
-                    distances[there] = distances[here];
-                }
+                int apart = partsApart(shade, other);
+                keepDistance(shade, other, apart);
+                keepDistance(other, shade, apart);
+            }
+        }
+
+        private void keepDistance(int shade, int other, int apart) {
+            int place = shade * LIMIT + other;
+            if (place >= 0 && place < distances.length) {
+                distances[place] = apart;
             }
         }
 
@@ -819,7 +770,6 @@ public final class Settbook {
         }
     }
 
-    /** A row of stripes, each of a shade and a count. */
     private static final class Row {
         private final int[] shades;
         private final int[] counts;
@@ -845,6 +795,10 @@ public final class Settbook {
                 counts[size] = count;
                 size++;
             }
+        }
+
+        void clear() {
+            size = 0;
         }
 
         int shadeAt(int index) {
@@ -910,12 +864,10 @@ public final class Settbook {
             return sum;
         }
 
-        /** The place of a stripe of the round that is begun at some stripe and gone in a direction. */
-        int turned(int begin, int step, int index) {
+        int placeInTurn(int begin, int step, int index) {
             return size == 0 ? 0 : Math.floorMod(begin + step * index, size);
         }
 
-        /** The stripe of the round behind one in a direction. */
         int nextTo(int index, int step) {
             int next = index + step;
             if (next < 0) {
@@ -924,11 +876,10 @@ public final class Settbook {
             return next < size ? next : 0;
         }
 
-        /** Below 0, 0 or above 0 as one turn of this round stands before, beside or behind another one. */
         int compareTurns(int begin, int step, int otherBegin, int otherStep) {
             for (int i = 0; i < size; i++) {
-                int here = turned(begin, step, i);
-                int there = turned(otherBegin, otherStep, i);
+                int here = placeInTurn(begin, step, i);
+                int there = placeInTurn(otherBegin, otherStep, i);
                 if (shadeAt(here) != shadeAt(there)) {
                     return shadeAt(here) - shadeAt(there);
                 }
@@ -952,7 +903,7 @@ public final class Settbook {
             }
             Row lowest = new Row(size);
             for (int i = 0; i < size; i++) {
-                int place = turned(lowestBegin, lowestStep, i);
+                int place = placeInTurn(lowestBegin, lowestStep, i);
                 lowest.put(shadeAt(place), countAt(place));
             }
             return lowest;
@@ -963,7 +914,7 @@ public final class Settbook {
                 return false;
             }
             for (int i = 0; i < size; i++) {
-                int there = other.turned(begin, step, i);
+                int there = other.placeInTurn(begin, step, i);
                 if (shadeAt(i) != other.shadeAt(there) || countAt(i) != other.countAt(there)) {
                     return false;
                 }
@@ -982,7 +933,7 @@ public final class Settbook {
 
         boolean hasTwins() {
             for (int i = 0; i < size; i++) {
-                if (shadeAt(i) == shadeAt(turned(i, 1, 1))) {
+                if (shadeAt(i) == shadeAt(placeInTurn(i, 1, 1))) {
                     return true;
                 }
             }
@@ -1021,7 +972,7 @@ public final class Settbook {
 
         boolean liesAt(Row round, int begin, int step) {
             for (int i = 0; i < size; i++) {
-                int there = round.turned(begin, step, i);
+                int there = round.placeInTurn(begin, step, i);
                 boolean isTorn = i == 0 || i == size - 1;
                 boolean isLong = round.countAt(there) > countAt(i);
                 boolean isExact = round.countAt(there) == countAt(i);
@@ -1163,6 +1114,16 @@ public final class Settbook {
             return warp;
         }
 
+        int takeDown() {
+            int sum = 0;
+            for (int i = 0; i < warpCount; i++) {
+                sum += restAt(i);
+            }
+            warpCount = 0;
+            orderCount = 0;
+            return sum;
+        }
+
         int put(int warp, int length) {
             int order = orderCount;
             if (warp < 0 || warp >= warpRests.length || order < 0 || order >= orderWarps.length) {
@@ -1216,7 +1177,6 @@ public final class Settbook {
             return errors;
         }
 
-        /** How much speaks for this copy being the parent of another one of the same sett. */
         int kinshipTo(Copy child) {
             int kinship = 0;
             for (int i = 0; i < counts.length; i++) {
